@@ -28,6 +28,7 @@ public final class BarrelProcessor {
     private static final int MOST_CYCLES_OF_A_RUN = 200;
     private static final int MOST_CYCLES_AHEAD = 500;
 
+    // The order matters: those up to MUL calculate, those up to SWAP reach the data memory.
     private static final int SET = 0;
     private static final int ADD = 1;
     private static final int SUB = 2;

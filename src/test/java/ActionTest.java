@@ -25,6 +25,8 @@ public final class ActionTest {
         undoRestoresAll();
         undoKeepsTheText();
         undoneRunGoesTheSameWay();
+        undoRestoresALoad();
+        undoRestoresCounters();
         CHECK.finish();
     }
 
@@ -365,5 +367,44 @@ public final class ActionTest {
             x.run(40);
             CHECK.dueText("the same run after undo", Check.stateOf(x), after);
         }
+    }
+
+    private static void undoRestoresALoad() {
+        BarrelProcessor x = Check.with("l31;h;l02;h");
+        x.set(BarrelProcessor.LATENCY, 2);
+        x.setWord(9, 90);
+        x.start(0, 0);
+        x.setRegister(0, 1, 9);
+        x.run(1);
+        x.start(0, 2);
+        x.set(BarrelProcessor.LATENCY, 9);
+        x.run(7);
+        x.undo();
+        x.undo();
+        CHECK.due("undo", x.undo(), 1);
+        CHECK.due("run(20)", x.run(20), 4);
+        CHECK.due("register(0, 3)", x.register(0, 3), 90);
+        CHECK.due("register(0, 0)", x.register(0, 0), 0);
+    }
+
+    private static void undoRestoresCounters() {
+        BarrelProcessor x = Check.with("j0");
+        for (int slot = 2; slot < 8; slot++) {
+            x.setSlot(slot, 1);
+        }
+        x.start(0, 0);
+        x.run(3);
+        x.run(5);
+        CHECK.due("starved(0)", x.starved(0), 7);
+        x.undo();
+        CHECK.due("starved(0) after undo", x.starved(0), 2);
+        x.run(1);
+        CHECK.due("the sequence goes on: starved(0)", x.starved(0), 3);
+        CHECK.due("idle", x.idle(), 3);
+        x.undo();
+        CHECK.due("undo", x.undo(), 2);
+        CHECK.due("trace(0, 0) after undo", x.trace(0, 0), NONE);
+        CHECK.due("executed(0) after undo", x.executed(0), 0);
+        CHECK.due("cycle after undo", x.cycle(), 0);
     }
 }

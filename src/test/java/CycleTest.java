@@ -19,6 +19,7 @@ public final class CycleTest {
         loadTakesItsTime();
         loadWithoutLatency();
         loadKeepsWhatItWasTold();
+        loadIntoEachRegister();
         barrierOpensTogether();
         barrierWaitsForALoad();
         barrierIgnoresHaltedThreads();
@@ -198,6 +199,22 @@ public final class CycleTest {
         CHECK.due("run(20)", x.run(20), 4);
         CHECK.due("the word as it is now, by the old number", x.register(0, 0), 61);
         CHECK.due("cycle: with the old latency", x.cycle(), 5);
+    }
+
+    private static void loadIntoEachRegister() {
+        for (int r = 0; r < 4; r++) {
+            for (int q = 0; q < 4; q++) {
+                BarrelProcessor x = Check.with("l" + r + q + ";h");
+                x.start(3, 0);
+                x.setRegister(3, q, 17);
+                x.setWord(17, -32768);
+                x.run(20);
+                for (int other = 0; other < 4; other++) {
+                    int want = other == r ? -32768 : other == q ? 17 : 0;
+                    CHECK.due("l" + r + q + ": register " + other, x.register(3, other), want);
+                }
+            }
+        }
     }
 
     private static void barrierOpensTogether() {

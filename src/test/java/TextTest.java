@@ -8,6 +8,8 @@ public final class TextTest {
         appendCharacters();
         fillTheText();
         clearTheText();
+        clearedCharactersAreGone();
+        faultsAtTheHundredthCharacter();
         faultsOfLetters();
         faultsOfNumbers();
         faultsOfPlaces();
@@ -62,6 +64,38 @@ public final class TextTest {
         Check.type(x, text);
         CHECK.due("fault of '" + text + "'", x.fault(), want);
         CHECK.due("fault of '" + text + "' asked again", x.fault(), want);
+    }
+
+    private static void clearedCharactersAreGone() {
+        String[] whole = {"s0=5", "s1=-7", "s2=12", "a01", "z0>5", "n1>45", "j12", "h;b"};
+        int[] alsoWholeAt = {-1, -1, 4, -1, -1, 4, 2, 1};
+        for (int i = 0; i < whole.length; i++) {
+            BarrelProcessor x = new BarrelProcessor();
+            for (int length = whole[i].length() - 1; length >= 0; length--) {
+                Check.type(x, whole[i]);
+                CHECK.due("fault of '" + whole[i] + "'", x.fault(), NONE);
+                Check.type(x, whole[i].substring(0, length));
+                CHECK.due("fault of '" + whole[i] + "' cut to " + length, x.fault(),
+                        length == alsoWholeAt[i] ? NONE : length);
+            }
+        }
+    }
+
+    private static void faultsAtTheHundredthCharacter() {
+        String[] ends = {"s", "s0", "s0=", "s0=-", "a", "a0", "j", "z", "z0", "n0>", "h;", "j4",
+            "s0=1", "s0=-1", "z0>4", "a00"};
+        for (String end : ends) {
+            BarrelProcessor x = new BarrelProcessor();
+            int filled = 100 - end.length();
+            String start = filled % 2 == 0 ? "" : "j1;";
+            while (start.length() < filled) {
+                start = start + "h;";
+            }
+            Check.type(x, start + end);
+            boolean isWhole = end.matches(".*[0-9]") && !end.matches("[aszn].?");
+            CHECK.due("fault of a text that ends in " + end, x.fault(), isWhole ? NONE : 100);
+            CHECK.due("its length", x.clearText(), 100);
+        }
     }
 
     private static void faultsOfLetters() {
