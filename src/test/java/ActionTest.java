@@ -249,7 +249,6 @@ public final class ActionTest {
 
     private static void errorsAreNotRecorded() {
         BarrelProcessor x = new BarrelProcessor();
-        String before = Check.stateOf(x);
         x.assemble(0);
         x.start(0, 48);
         x.halt(4);
@@ -260,7 +259,7 @@ public final class ActionTest {
         x.setBreakpoint(48, true);
         x.run(0);
         CHECK.due("undo", x.undo(), NONE);
-        CHECK.dueText("the state", Check.stateOf(x), before);
+        CHECK.dueText("the state", Check.stateOf(x), Check.stateOf(new BarrelProcessor()));
     }
 
     private static void recorded(String action, BarrelProcessor x) {
@@ -311,34 +310,47 @@ public final class ActionTest {
         CHECK.due("word(0)", x.word(0), 2);
     }
 
-    private static void undoRestoresAll() {
+    /** All of them have the same state; a new one for each look keeps below 512 calls. */
+    private static BarrelProcessor working() {
         BarrelProcessor x = Check.with("s0=5;l10;w01;b;j0");
         x.set(BarrelProcessor.LEND, 2);
         x.start(0, 0);
         x.start(2, 0);
         x.start(3, 1);
         x.run(30);
-        String before = Check.stateOf(x);
         Check.type(x, "h;h;h;h");
+        return x;
+    }
+
+    private static void restored(String actions, BarrelProcessor x) {
+        CHECK.dueText("the state after " + actions, Check.stateOf(x), Check.stateOf(working()));
+    }
+
+    private static void undoRestoresAll() {
+        BarrelProcessor x = working();
         x.run(50);
         CHECK.due("undo of run", x.undo(), 3);
-        CHECK.dueText("the state after run", Check.stateOf(x), before);
+        restored("run", x);
+        x = working();
         x.assemble(0);
         x.undo();
-        CHECK.dueText("the state after assemble", Check.stateOf(x), before);
+        restored("assemble", x);
+        x = working();
         x.start(0, 3);
         x.undo();
-        CHECK.dueText("the state after start", Check.stateOf(x), before);
+        restored("start", x);
+        x = working();
         x.halt(2);
         x.undo();
-        CHECK.dueText("the state after halt", Check.stateOf(x), before);
+        restored("halt", x);
+        x = working();
         x.setSlot(3, 0);
         x.setBreakpoint(7, true);
         x.set(BarrelProcessor.LATENCY, 20);
         x.undo();
         x.undo();
         x.undo();
-        CHECK.dueText("the state after three actions", Check.stateOf(x), before);
+        restored("three actions", x);
     }
 
     private static void undoKeepsTheText() {
@@ -353,20 +365,27 @@ public final class ActionTest {
 
     /** What cannot be asked directly (waiting loads, turns, starving) is restored as well. */
     private static void undoneRunGoesTheSameWay() {
+        for (int cycles = 1; cycles < 20; cycles++) {
+            BarrelProcessor x = startedInTurn();
+            x.run(cycles);
+            x.run(40);
+            x.undo();
+            x.run(40);
+            BarrelProcessor straight = startedInTurn();
+            straight.run(cycles);
+            straight.run(40);
+            CHECK.dueText("the same run after undo", Check.stateOf(x), Check.stateOf(straight));
+        }
+    }
+
+    private static BarrelProcessor startedInTurn() {
         BarrelProcessor x = Check.with("s0=5;l10;a11;w01;j0");
         x.set(BarrelProcessor.LEND, 2);
         x.set(BarrelProcessor.LATENCY, 5);
         for (int t = 0; t < 4; t++) {
             x.start(t, t);
         }
-        for (int cycles = 1; cycles < 20; cycles++) {
-            x.run(cycles);
-            x.run(40);
-            String after = Check.stateOf(x);
-            x.undo();
-            x.run(40);
-            CHECK.dueText("the same run after undo", Check.stateOf(x), after);
-        }
+        return x;
     }
 
     private static void undoRestoresALoad() {

@@ -32,17 +32,31 @@ public final class ActionsEdgeTest {
     private record Action(String name, Busy.Call call) {
     }
 
-    /** Each action, on a processor of Busy. */
+    /** The text of the processors on which the actions below act. */
+    private static final String TEXT = "s3=-99;j47";
+    /** Each action at the edges of its ranges, so that it changes something. */
     private static final Action[] ACTIONS = {
-        new Action("assemble", x -> x.assemble(40)),
-        new Action("start", x -> x.start(1, 9)),
-        new Action("halt", x -> x.halt(1)),
-        new Action("setRegister", x -> x.setRegister(2, 3, -4)),
-        new Action("setWord", x -> x.setWord(2, 5)),
-        new Action("setSlot", x -> x.setSlot(7, 0)),
-        new Action("set", x -> x.set(LATENCY, 1)),
-        new Action("setBreakpoint", x -> x.setBreakpoint(9, true)),
-        new Action("run", x -> x.run(9))};
+        new Action("assemble(0)", x -> x.assemble(0)),
+        new Action("assemble(46)", x -> x.assemble(46)),
+        new Action("start(0, 47)", x -> x.start(0, 47)),
+        new Action("start(1, 0)", x -> x.start(1, 0)),
+        new Action("start(2, 0)", x -> x.start(2, 0)),
+        new Action("start(3, 47)", x -> x.start(3, 47)),
+        new Action("halt(0)", x -> x.halt(0)),
+        new Action("halt(1)", x -> x.halt(1)),
+        new Action("halt(2)", x -> x.halt(2)),
+        new Action("setRegister(0, 0, 32767)", x -> x.setRegister(0, 0, HIGHEST)),
+        new Action("setRegister(3, 3, -32768)", x -> x.setRegister(3, 3, LOWEST)),
+        new Action("setWord(0, 32767)", x -> x.setWord(0, HIGHEST)),
+        new Action("setWord(31, -32768)", x -> x.setWord(31, LOWEST)),
+        new Action("setSlot(0, 3)", x -> x.setSlot(0, 3)),
+        new Action("setSlot(7, 0)", x -> x.setSlot(7, 0)),
+        new Action("set(LATENCY, 20)", x -> x.set(LATENCY, 20)),
+        new Action("set(LEND, 0)", x -> x.set(LEND, 0)),
+        new Action("setBreakpoint(0, true)", x -> x.setBreakpoint(0, true)),
+        new Action("setBreakpoint(47, true)", x -> x.setBreakpoint(47, true)),
+        new Action("run(1)", x -> x.run(1)),
+        new Action("run(200)", x -> x.run(200))};
     /** Each action so that it changes nothing, on a processor with the text h and no thread. */
     private static final Action[] IDLE_ACTIONS = {
         new Action("assemble", x -> x.assemble(40)),
@@ -82,6 +96,8 @@ public final class ActionsEdgeTest {
         undoKeepsTheText();
         eachActionIsRecorded();
         stateThatIsRestored();
+        loadThatIsRestored();
+        traceThatIsRestored();
         actionsThatChangeNothingAreRecorded();
         fifthStateDropsTheOldest();
         codesLieBelowAllValues();
@@ -459,11 +475,12 @@ public final class ActionsEdgeTest {
         DOC.says(HISTORY, "The actions are assemble, start, halt, setRegister, setWord, setSlot, "
                 + "set, setBreakpoint and run.");
         for (Action action : ACTIONS) {
-            BarrelProcessor x = Busy.make("h");
-            String before = Check.stateOf(Busy.make("h"));
-            CHECK.due(action.name() + " is no error", action.call().on(x) < -100000 ? 1 : 0, 0);
+            BarrelProcessor x = Busy.make(TEXT);
+            int answer = (int) action.call().on(x);
+            CHECK.due(action.name() + " is no error", answer < LOWEST ? 1 : 0, 0);
             CHECK.due("undo of " + action.name(), x.undo(), 3);
-            CHECK.dueText("the state after undo of " + action.name(), Check.stateOf(x), before);
+            CHECK.dueText("the state after undo of " + action.name(), Check.stateOf(x),
+                    Check.stateOf(Busy.make(TEXT)));
         }
         BarrelProcessor x = new BarrelProcessor();
         x.append('h');
@@ -481,14 +498,57 @@ public final class ActionsEdgeTest {
                 + "breakpoints, the counters and the trace.");
         for (Action action : ACTIONS) {
             for (int cycles = 1; cycles <= 40; cycles += 13) {
-                BarrelProcessor x = Busy.make("h");
-                BarrelProcessor untouched = Busy.make("h");
+                BarrelProcessor x = Busy.make(TEXT);
+                BarrelProcessor untouched = Busy.make(TEXT);
                 action.call().on(x);
                 x.undo();
                 CHECK.due("run after undo", x.run(cycles), untouched.run(cycles));
                 CHECK.dueText("the state after undo of " + action.name() + " and a run",
                         Check.stateOf(x), Check.stateOf(untouched));
             }
+        }
+    }
+
+    /** A load that has begun since does not take the place of the one that was on its way. */
+    private static void loadThatIsRestored() {
+        DOC.says(HISTORY, "The state consists of the threads with their registers,");
+        BarrelProcessor x = Check.with("l31;h;l02;h");
+        x.set(LATENCY, 2);
+        x.setWord(9, 90);
+        x.start(0, 0);
+        x.setRegister(0, 1, 9);
+        x.run(1);
+        x.start(0, 2);
+        x.set(LATENCY, 9);
+        x.run(7);
+        x.undo();
+        x.undo();
+        CHECK.due("undo of the start", x.undo(), 1);
+        CHECK.due("state", x.state(0), LOADING);
+        CHECK.due("run(200), with its own latency", x.run(200), 4);
+        CHECK.due("register, of its own number", x.register(0, 3), 90);
+        CHECK.due("register of the other load", x.register(0, 0), 0);
+    }
+
+    private static void traceThatIsRestored() {
+        DOC.says(HISTORY, "the counters and the trace.");
+        for (int cycles = 1; cycles <= 40; cycles++) {
+            BarrelProcessor x = Check.with("a00;a00;j0");
+            x.set(LEND, 1);
+            x.start(2, 0);
+            x.run(21);
+            x.run(cycles);
+            x.undo();
+            for (int ago = 0; ago < 16; ago++) {
+                CHECK.due("trace(" + ago + ", 0)", x.trace(ago, 0), 20 - ago);
+                CHECK.due("trace(" + ago + ", 1)", x.trace(ago, 1), 2);
+                CHECK.due("trace(" + ago + ", 2)", x.trace(ago, 2), (20 - ago) % 3);
+            }
+            CHECK.due("trace(16, 0)", x.trace(16, 0), NONE);
+            CHECK.due("executed", x.executed(2), 21);
+            CHECK.due("lent", x.lent(2), 16);
+            CHECK.due("idle", x.idle(), 0);
+            CHECK.due("cycle", x.cycle(), 21);
         }
     }
 

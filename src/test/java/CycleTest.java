@@ -542,15 +542,21 @@ public final class CycleTest {
         CHECK.dueFloat("use", x.use(), 1.0f);
     }
 
-    private static void nextThreadChangesNothing() {
+    private static BarrelProcessor afterCycles(int cycles) {
         BarrelProcessor x = Check.with("l00;b;j0");
         x.set(LEND, 2);
         x.start(0, 0);
         x.start(2, 1);
-        for (int i = 0; i < 20; i++) {
-            String before = Check.stateOf(x);
+        x.run(cycles);
+        return x;
+    }
+
+    private static void nextThreadChangesNothing() {
+        for (int cycles = 1; cycles <= 20; cycles++) {
+            BarrelProcessor x = afterCycles(cycles);
+            x.nextThread();
+            CHECK.dueText("the state", Check.stateOf(x), Check.stateOf(afterCycles(cycles)));
             int next = x.nextThread();
-            CHECK.dueText("the state", Check.stateOf(x), before);
             int idle = x.idle();
             x.run(1);
             CHECK.due("nextThread", next, x.idle() > idle ? NONE : x.trace(0, 1));

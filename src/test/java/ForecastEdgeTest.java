@@ -36,6 +36,8 @@ public final class ForecastEdgeTest {
         finalWordRefusesOthers();
         finalWordUpToFiveHundred();
         finalWordOfHaltedThreads();
+        finalWordWithTheSettingsAsTheyAre();
+        finalWordBehindALoadThatIsOnItsWay();
         forecastsChangeNothing();
         DOC.finish();
         CHECK.finish();
@@ -392,6 +394,50 @@ public final class ForecastEdgeTest {
         CHECK.due("finalWord(0)", x.finalWord(0), -32768);
         CHECK.due("finalWord(31)", x.finalWord(31), 32767);
         CHECK.due("finalWord(1)", x.finalWord(1), 0);
+    }
+
+    private static void finalWordWithTheSettingsAsTheyAre() {
+        DOC.says(FINAL_WORD, "Tells which value a word would have when all threads are halted.");
+        // Thread 0 loads in the cycle 0; thread 1 stores 5 in that word in the cycle 9.
+        BarrelProcessor x = Check.with("a00;l01;w02;h;a00;s0=5;w01;h");
+        x.start(0, 1);
+        x.setRegister(0, 2, 3);
+        x.start(1, 4);
+        for (int latency = 0; latency <= 20; latency++) {
+            x.set(LATENCY, latency);
+            CHECK.due("finalWord(3) with the latency " + latency, x.finalWord(3),
+                    latency <= 8 ? 0 : 5);
+        }
+        // In slots of thread 3, thread 1 stores in the cycle 4; thread 0 loads with LEND 1 in the
+        // cycle 1, and with LEND 2, in turn with thread 1, in the cycle 2.
+        giveAllSlotsTo(x, 3);
+        x.start(0, 0);
+        x.setRegister(0, 2, 3);
+        x.set(LATENCY, 2);
+        CHECK.due("finalWord(3) with LEND 0", x.finalWord(3), NONE);
+        x.set(LEND, 1);
+        CHECK.due("finalWord(3) with LEND 1", x.finalWord(3), 0);
+        x.set(LEND, 2);
+        CHECK.due("finalWord(3) with LEND 2", x.finalWord(3), 5);
+        x.run(200);
+        CHECK.due("word(3)", x.word(3), 5);
+    }
+
+    private static void finalWordBehindALoadThatIsOnItsWay() {
+        DOC.says(FINAL_WORD, "Tells which value a word would have when all threads are halted.");
+        for (int thread = 0; thread < 4; thread++) {
+            BarrelProcessor x = Check.with("l31;w32;h");
+            x.setWord(31, 90);
+            x.start(thread, 0);
+            x.setRegister(thread, 1, -1);
+            x.setRegister(thread, 2, 10);
+            x.run(thread + 1);
+            CHECK.due("state", x.state(thread), BarrelProcessor.LOADING);
+            CHECK.due("finalWord(10)", x.finalWord(10), 90);
+            x.setRegister(thread, 1, 0);
+            x.setWord(31, 91);
+            CHECK.due("finalWord(10) of the word as it is now", x.finalWord(10), 91);
+        }
     }
 
     private static void forecastsChangeNothing() {

@@ -181,18 +181,22 @@ public final class ForecastTest {
         CHECK.due("finalWord(5) of a halted one", x.finalWord(5), 7);
     }
 
-    private static void forecastsChangeNothing() {
+    private static BarrelProcessor working() {
         BarrelProcessor x = Check.with("s0=3;l10;w10;b;x01;a01;h");
         x.start(0, 0);
         x.start(1, 1);
         x.start(3, 2);
         x.run(7);
-        String before = Check.stateOf(x);
+        return x;
+    }
+
+    private static void forecastsChangeNothing() {
+        BarrelProcessor x = working();
         x.cyclesLeft();
         x.cyclesIf(20, 2);
         x.bestLend();
         x.finalWord(4);
-        CHECK.dueText("the state", Check.stateOf(x), before);
+        CHECK.dueText("the state", Check.stateOf(x), Check.stateOf(working()));
         CHECK.due("a question is no action: undo", x.undo(), 3);
     }
 

@@ -2,6 +2,8 @@
 public final class ModelTest {
     private static final int SEQUENCES = 1500;
     private static final int MOST_CALLS = 512;
+    /** More than the calls that type a text of the shorter kind. */
+    private static final int CALLS_OF_A_TEXT = 40;
     private static final int[] ODD = {-1, 4, 8, 32, 48, 201, 32768, -32769, Integer.MIN_VALUE,
         Integer.MAX_VALUE};
     private static final Check CHECK = new Check("ModelTest");
@@ -143,7 +145,7 @@ public final class ModelTest {
             int c = below(9) == 0 ? upTo(200) : instruction().charAt(0);
             c = below(2) == 0 ? ';' : c;
             same(number, "append", x.append(c), m.append(c));
-        } else if (below(2) == 0) {
+        } else if (below(2) == 0 && calls < MOST_CALLS - CALLS_OF_A_TEXT) {
             type(10 + below(20));
         }
     }

@@ -216,7 +216,6 @@ public final class TextTest {
 
     private static void assembleErrors() {
         BarrelProcessor x = new BarrelProcessor();
-        String before = Check.stateOf(x);
         CHECK.due("assemble(-1) of no text", x.assemble(-1), NO_SUCH);
         CHECK.due("assemble(48) of no text", x.assemble(48), NO_SUCH);
         CHECK.due("assemble(0) of no text", x.assemble(0), BarrelProcessor.BAD_TEXT);
@@ -225,7 +224,7 @@ public final class TextTest {
         Check.type(x, "b;b;b");
         CHECK.due("assemble(46)", x.assemble(46), BarrelProcessor.TOO_MANY);
         CHECK.due("assemble of the greatest int", x.assemble(Integer.MAX_VALUE), NO_SUCH);
-        CHECK.dueText("the state", Check.stateOf(x), before);
+        CHECK.dueText("the state", Check.stateOf(x), Check.stateOf(new BarrelProcessor()));
         CHECK.due("errors are not recorded: undo()", x.undo(), NONE);
         CHECK.due("assemble(45)", x.assemble(45), 3);
         CHECK.due("operation(45)", x.operation(45), 10);

@@ -31,6 +31,7 @@ public final class ThreadsEdgeTest {
         setTakesItsWholeRange();
         operationsOfARegisterWithItself();
         loadTakesTheLowestFiveBits();
+        loadTakesEachRegister();
         loadTakesTheRegisterAsItWas();
         storeTakesTheLowestFiveBits();
         swapTakesTheLowestFiveBits();
@@ -262,6 +263,26 @@ public final class ThreadsEdgeTest {
         }
     }
 
+    private static void loadTakesEachRegister() {
+        DOC.says(INSTRUCTIONS, "it will load into the register r the word whose number is given by "
+                + "the lowest 5 bits of the register q");
+        for (int r = 0; r < 4; r++) {
+            for (int q = 0; q < 4; q++) {
+                BarrelProcessor x = Check.with("l" + r + q + ";h");
+                fillWords(x);
+                x.start(0, 0);
+                for (int register = 0; register < 4; register++) {
+                    x.setRegister(0, register, 40 + register);
+                }
+                x.run(20);
+                for (int register = 0; register < 4; register++) {
+                    CHECK.due("register " + register + " after l" + r + q,
+                            x.register(0, register), register == r ? 108 + q : 40 + register);
+                }
+            }
+        }
+    }
+
     private static void loadTakesTheRegisterAsItWas() {
         DOC.says(INSTRUCTIONS, "- 4 LOAD r, q: the thread is loading: it will load into the "
                 + "register r the word whose number is given by the lowest 5 bits of the register "
@@ -341,10 +362,15 @@ public final class ThreadsEdgeTest {
     private static void jumpsToTheFirstAndTheLastPlace() {
         DOC.says(INSTRUCTIONS, "- 7 JUMP n: the program counter becomes n.");
         int[] places = {0, 1, 9, 10, 46, 47};
+        String[] jumps = {"j", "z1>", "n0>"};
         for (int place : places) {
-            CHECK.due("j" + place, after("j" + place, 1, 1).programCounter(0), place);
-            CHECK.due("z0>" + place, after("z0>" + place, 0, 1).programCounter(0), place);
-            CHECK.due("n0>" + place, after("n0>" + place, -1, 1).programCounter(0), place);
+            for (String jump : jumps) {
+                BarrelProcessor x = after(jump + place, -1, 0);
+                CHECK.due(jump + place, x.programCounter(0), place);
+                CHECK.due("state after " + jump + place, x.state(0), READY);
+                CHECK.due("register(0, 0) after it", x.register(0, 0), -1);
+                CHECK.due("register(0, 1) after it", x.register(0, 1), 0);
+            }
         }
     }
 
@@ -401,7 +427,17 @@ public final class ThreadsEdgeTest {
                 x.run(1);
                 CHECK.due("programCounter after " + instruction + " at " + place,
                         x.programCounter(0), place + 1);
+                CHECK.due("state after " + instruction, x.state(0), stateAfter(instruction));
             }
+        }
+    }
+
+    private static int stateAfter(String instruction) {
+        switch (instruction.charAt(0)) {
+            case 'l': return LOADING;
+            case 'b': return AT_BARRIER;
+            case 'h': return HALTED;
+            default: return READY;
         }
     }
 
