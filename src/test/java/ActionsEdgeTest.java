@@ -140,9 +140,9 @@ public final class ActionsEdgeTest {
     }
 
     private static void startWhateverItIsDoing() {
-        DOC.says(START, "Starts a thread, whatever it is doing: its registers become 0, its program "
-                + "counter becomes the place, it is ready, and it has not been the issuing thread "
-                + "since it was started.", "Returns the state that the thread had;");
+        DOC.says(START, "Starts a thread, whatever it is doing: its registers become 0, its "
+                + "program counter becomes the place, it is ready, and it has not been the issuing "
+                + "thread since it was started.", "Returns the state that the thread had;");
         int[] states = {READY, LOADING, AT_BARRIER, HALTED};
         for (int thread = 0; thread < 4; thread++) {
             BarrelProcessor x = Busy.make();

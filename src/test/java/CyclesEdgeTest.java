@@ -739,7 +739,8 @@ public final class CyclesEdgeTest {
 
     private static void runTakesOneToTwoHundred() {
         DOC.says(RUN, "- `cycles`: 1 to 200: the greatest number of cycles",
-                "Returns the number of cycles that were run (0 if all threads are halted already);");
+                "Returns the number of cycles that were run (0 if all threads are halted "
+                + "already);");
         int[] numbers = {1, 2, 8, 199, 200};
         for (int cycles : numbers) {
             BarrelProcessor x = Check.with("j0");

@@ -116,8 +116,8 @@ public final class TextEdgeTest {
     private static void lettersInTheirOrder() {
         DOC.says(TEXT, "These stand for SET, ADD, SUB, MUL, LOAD, STORE, SWAP, JUMP, JZ, JN, SYNC "
                 + "and HALT, in this order.",
-                "instruction = \"s\" r \"=\" number | \"a\" r q | \"d\" r q | \"m\" r q | \"l\" r q "
-                + "| \"w\" r q | \"x\" r q | \"j\" place | \"z\" r \">\" place | \"n\" r \">\" "
+                "instruction = \"s\" r \"=\" number | \"a\" r q | \"d\" r q | \"m\" r q | \"l\" r "
+                + "q | \"w\" r q | \"x\" r q | \"j\" place | \"z\" r \">\" place | \"n\" r \">\" "
                 + "place | \"b\" | \"h\"");
         BarrelProcessor x = typed("s1=2;a12;d12;m12;l12;w12;x12;j3;z1>2;n1>2;b;h");
         CHECK.due("assemble", x.assemble(0), 12);
