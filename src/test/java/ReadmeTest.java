@@ -10,7 +10,6 @@ import java.nio.file.Path;
 import java.util.regex.Matcher;
 import java.util.regex.Pattern;
 import java.util.stream.Stream;
-import javax.tools.ToolProvider;
 
 /** README.md: its example does what stands there, and it leaves nothing out. */
 public final class ReadmeTest {
@@ -31,8 +30,9 @@ public final class ReadmeTest {
     private static void exampleAnswersAsItSays(String page) throws Exception {
         Files.createDirectories(EXAMPLE.getParent());
         Files.writeString(EXAMPLE, blockOf(page, "java"));
-        int result = ToolProvider.getSystemJavaCompiler().run(null, null, null, "-classpath",
-                System.getProperty("java.class.path"), EXAMPLE.toString());
+        int result = new ProcessBuilder("javac", "-classpath",
+                System.getProperty("java.class.path"), EXAMPLE.toString())
+                .inheritIO().start().waitFor();
         CHECK.due("javac of the example", result, 0);
         if (result == 0) {
             CHECK.dueText("what the example prints", printed(), blockOf(page, "text"));
